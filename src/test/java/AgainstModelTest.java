@@ -31,6 +31,8 @@ public final class AgainstModelTest {
 
     /** One run: the same calls on both, drawn so that most are sensible and some are not. */
     private static final class Run {
+        static final String STRANGE = ";xoa1 \n\t\r-Z\u00ff@[`{/:";
+
         final int seed;
         final Random random;
         final RangeCodes codes = new RangeCodes();
@@ -191,7 +193,7 @@ public final class AgainstModelTest {
                         text.deleteCharAt(at);
                         break;
                     case 1:
-                        text.insert(at, ";xoa1 \n\t\r-Z\u00ff@[`{/:".charAt(random.nextInt(21)));
+                        text.insert(at, STRANGE.charAt(random.nextInt(STRANGE.length())));
                         break;
                     case 2:
                         text.setLength(at);
