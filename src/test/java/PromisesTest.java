@@ -219,6 +219,12 @@ public final class PromisesTest {
         fault("limit 1;\u00ff", 1, 8);
         fault("out shift 1;", 1, 4);
         fault("limits 1;", 1, 0);
+        fault("limit abc;", 1, 6);
+        fault("out delay xo;", 1, 10);
+        fault("part 11 1;", 1, 5);
+        fault("part xo xo;", 1, 8);
+        fault("out 1;", 1, 4);
+        fault("part xo 1,", 1, 9);
         fault("limi 1;", 1, 0);
         fault("limit 0;part xo 10;out", 1, 22);
         fault("abcdefghijklmn", 1, 0);
@@ -414,6 +420,17 @@ public final class PromisesTest {
         int min = Math.min(y.full(0, 0), Math.min(y.full(1, 0), y.full(2, 0)));
         due(13, "that full is reached", min, least);
         due(13, "by vote 1", vote, 1);
+        // only the greatest vote is like that of xxx
+        RangeCodes z = told("part ox 4;part oxoox 4;part oxx 4;part xxx 9;");
+        int greatest = MIN;
+        for (int number = 1; number <= 9; number++) {
+            z.vote(0, number);
+            int own = Math.min(Math.min(z.full(0, 0), z.full(1, 0)), Math.min(z.full(2, 0), z.full(3, 0)));
+            due(13, "only 9 is best", own > greatest || number < 9, true);
+            greatest = Math.max(greatest, own);
+        }
+        due(13, "9", z.better(0, false), 9);
+        due(13, "its least full", z.better(0, true), greatest);
     }
 
     private static void codeAndParts() {
@@ -864,6 +881,12 @@ public final class PromisesTest {
         due(36, "another number", x.needs(0, -1), -1);
         due(36, "another number", x.needs(0, 10000), -1);
         due(36, "no such leg", x.needs(2, 0), -1);
+        RangeCodes far = told("part xxo 1;part xxoxo 1;part xo 1;limit 8;out delay 7;");
+        due(36, "7 is below 8", far.needs(0, 7) > 0, true);
+        far.limit(7);
+        due(36, "7 is not below 7", far.needs(0, 7), -1);
+        RangeCodes late = told("part xxo 1;out delay 2;out many 3;out lose 0 198;");
+        due(36, "the last one alone tells", late.needs(0, 2), 200);
         due(36, "without parts", new RangeCodes().needs(1, 0), 1);
         due(36, "without parts", new RangeCodes().needs(1, 1), -1);
         // out says 0 (one chip); back is sent by that and late by its own delay
