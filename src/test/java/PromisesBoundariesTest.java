@@ -4,8 +4,8 @@ import java.util.function.ToIntFunction;
 
 /**
  * The document's promises 1 to 40: for each sentence that names a boundary case or a refused call a
- * test of its own; and that questions and refused calls change nothing. Answers were worked out by
- * hand from the words; each test's name is these words.
+ * test of its own, named by its words (here and there shortened); and that questions and refused
+ * calls change nothing. Answers were worked out by hand from the words.
  */
 public final class PromisesBoundariesTest {
     private static final Sentences S = new Sentences();
@@ -360,6 +360,12 @@ public final class PromisesBoundariesTest {
             S.due("row", Sentences.row(x, 1), "ox");
             S.due("12 of 13", x.turn(2, 12), true);
             S.due("row", Sentences.row(x, 2), "oooooooooooox");
+            RangeCodes round = told("part xxoxxxoxxoxox 1;");
+            for (int k = 1; k <= 13; k++) {
+                round.turn(0, 5);
+                S.due("as many are YES", round.part(0, 2), 9);
+            }
+            S.due("13 times round", Sentences.row(round, 0), "xxoxxxoxxoxox");
         });
         S.test("10: false: another number", () -> {
             RangeCodes x = told("part xxooo 1;part xo 1;");
@@ -440,9 +446,7 @@ public final class PromisesBoundariesTest {
 
     private static void better() {
         S.test("13: The VOTE, 1 to 9, by which the least FULL of all PARTS in PLACE 0 is greatest", () -> {
-            // only the greatest vote of the first one is best here, and only the least one there
             RangeCodes nine = told("part ox 4;part oxoox 4;part oxx 4;part xxx 9;");
-            S.due("9", nine.better(0, false), 9);
             for (int part = 0; part < 4; part++) {
                 RangeCodes x = told("part ox 4;part oxoox 4;part oxx 4;part xxx 9;");
                 int best = 0;
@@ -456,6 +460,18 @@ public final class PromisesBoundariesTest {
                 S.due("vote of " + part, nine.better(part, false), best);
                 S.due("full by " + part, nine.better(part, true), full);
             }
+        });
+        S.test("13: each VOTE, 1 to 9, where it is the only best one", () -> {
+            // by going through all t of the period with all nine votes
+            onlyBest("part oxoxx 4;part oooxxoo 6;part xx 3;part oooxo 2;", 3, 1, -2);
+            onlyBest("part oxxx 6;part xxo 1;part oxo 6;part oox 2;", 1, 2, -2);
+            onlyBest("part oxxoooo 7;part ox 3;part oooooxx 1;part xox 8;", 2, 3, 6);
+            onlyBest("part oxoxo 6;part xo 7;part xxxoo 4;part oxoxoxx 1;", 3, 4, 14);
+            onlyBest("part oox 4;part ooxoooo 5;part xox 1;part xxoox 5;", 2, 5, 29);
+            onlyBest("part xoxox 7;part xxxx 6;part xoxxoxo 1;part oox 8;", 2, 6, 52);
+            onlyBest("part ooxo 8;part xxxoo 7;part oxx 1;part ooxooxx 8;", 2, 7, 54);
+            onlyBest("part oooxo 9;part xoxxo 8;part oox 1;part oooxoxo 9;", 2, 8, 29);
+            onlyBest("part xxooxxo 7;part ox 8;part xooxxox 9;part xxoooxo 1;", 3, 9, 4);
         });
         S.test("13: of several the least one", () -> {
             S.due("alone all are alike", told("part xxo 7;").better(0, false), 1);
@@ -473,6 +489,12 @@ public final class PromisesBoundariesTest {
             dueAll("part, least", beside(0, 1), -1000000, part -> x.better(part, true));
             S.due("without parts", new RangeCodes().better(0, true), -1000000);
         });
+    }
+
+    private static void onlyBest(String text, int part, int vote, int full) {
+        RangeCodes x = told(text);
+        S.due("vote in " + text, x.better(part, false), vote);
+        S.due("full in " + text, x.better(part, true), full);
     }
 
     private static void codes() {
@@ -543,6 +565,8 @@ public final class PromisesBoundariesTest {
             S.due("of part 0", x.full(0, 0), 6);
             S.due("its last place", x.full(0, 1), -6);
             S.due("of part 1", x.full(1, 0), 0);
+            fullByChips("part oxxo 2;part xoxxoxoox 3;part oxxoxo 2;");
+            fullByChips("part oxxoxo 2;part oxxo 3;part xoxxoxoox 2;part xooxoxxxox 4;part xxoxo 1;");
             S.due("a whole long period", told("part xoooooooooooo 9;part xoooooooooo 1;part xooooooooo 1;part xoooooooo 1;"
                 + "part xoooooo 1;").full(0, 0), 90090);
         });
@@ -553,6 +577,26 @@ public final class PromisesBoundariesTest {
             dueAll("place of xoo", beside(0, 2), -1000000, place -> x.full(1, place));
             S.due("without parts", new RangeCodes().full(0, 0), -1000000);
         });
+    }
+
+    /** FULL of all PARTS in all PLACES, by the CHIPS of the CODE in a whole PERIOD. */
+    private static void fullByChips(String text) {
+        RangeCodes x = told(text);
+        int[] chips = new int[x.code(1)];
+        for (int t = 0; t < chips.length; t++) {
+            chips[t] = x.chip(t);
+        }
+        for (int part = 0; part < x.code(0); part++) {
+            String row = Sentences.row(x, part);
+            for (int place = 0; place < row.length(); place++) {
+                int full = 0;
+                for (int t = 0; t < chips.length; t++) {
+                    char chip = row.charAt(Math.floorMod(t - place, row.length()));
+                    full += chip == (chips[t] == 1 ? 'x' : 'o') ? 1 : -1;
+                }
+                S.due("full " + part + " " + place + " of " + text, x.full(part, place), full);
+            }
+        }
     }
 
     private static void legsOf() {
@@ -657,6 +701,10 @@ public final class PromisesBoundariesTest {
             S.due("one chip", told("part xo 1;out many 1;").fragile(0, 0), 1);
             S.due("200 chips", told("part xo 1;out many 200;").fragile(0, 0), 101);
             S.due("those that are lost can not be", told("part xo 1;out many 200;out lose 1 199;").fragile(0, 0), 1);
+            // by trying all sets of i
+            S.due("ooxox", told("part ooxox 1;out many 5;out delay 5;").fragile(0, 0), 2);
+            S.due("xxo", told("part xxo 1;out many 4;out from 1;out delay 2;").fragile(0, 0), 2);
+            S.due("oxo", told("part oxo 1;out many 4;out from 1;out delay 2;").fragile(0, 0), 1);
             S.due("alike already: 1", told("part xxo 1;out many 1;").fragile(0, 0), 1);
         });
         S.test("23: NONE: it can not be", () -> {
@@ -764,6 +812,9 @@ public final class PromisesBoundariesTest {
         S.test("27: NONE: not so many, no such LEG", () -> {
             RangeCodes x = told("part xxo 1;out delay 2;limit 9;");
             dueAll("k", beside(0, 2), -1, k -> x.guess(0, k));
+            x.set(0, 0, 1);
+            S.due("-1, where 1 less the step would be -2", x.guess(0, -1), -1);
+            x.set(0, 0, 2);
             S.due("3 times the step is beyond the ints", x.guess(0, 715827882), -1);
             x.limit(8);
             S.due("8 is not below 8", x.guess(0, 2), -1);
@@ -811,6 +862,13 @@ public final class PromisesBoundariesTest {
             for (int number = 0; number < 5; number++) {
                 S.due("rank of " + number, x.rank(0, number), due[number]);
             }
+            RangeCodes three = told("part xxo 1;out many 2;out delay 2;");
+            for (int limit = 1; limit <= 9; limit++) {
+                three.limit(limit);
+                for (int k = 0; k < limit; k++) {
+                    S.due("limit " + limit + ", the " + k + "-th", three.rank(0, three.likely(0, k, false)), k);
+                }
+            }
             x.limit(9999);
             S.due("the last number, even", x.rank(0, 9998), 4999);
             S.due("the last of all, odd", x.rank(0, 9997), 9998);
@@ -827,6 +885,12 @@ public final class PromisesBoundariesTest {
             S.due("more", told("part xo 1;out many 4;out slip 2;").broken(0, 0, 4), 4);
             S.due("less", told("part xo 1;out many 4;").broken(0, 0, 4), -2);
             S.due("alike", told("part xx 1;").broken(0, 0, 4), 0);
+            RangeCodes twice = told("part xo 1;part xx 1;out many 9;back many 4;");
+            S.due("9 chips", twice.broken(0, 0, 3), 7);
+            S.due("4 chips then", twice.broken(1, 0, 3), 2);
+            S.due("9 once more", twice.broken(0, 0, 3), 7);
+            S.due("the other part", twice.broken(0, 1, 3), 1);
+            S.due("13 chips a row", told("part xoooooooooooo 1;out many 13;out slip 3;").broken(0, 0, 3), 13);
         });
         S.test("30: -1000: no such LEG, PART, MANY is 1, another what", () -> {
             RangeCodes x = told("part xo 1;back many 1;");
@@ -853,6 +917,7 @@ public final class PromisesBoundariesTest {
         S.test("31: 1: BEHIND of both LEGS at i 0 together", () -> {
             RangeCodes x = told("out delay 9999;back delay 9999;out slip 0;back slip 1;");
             S.due("both and a jump at 0", x.both(1), 19999);
+            S.due("not at 1", told("out slip 1;back skip 1;out drift 64;back shrink 0;out many 9;").both(1), 0);
             S.due("below 0", told("out skip 0;back skip 0;").both(1), -2);
             S.due("without a distance, too", told("part xxo 1;out delay 2;limit 1;").both(1), 2);
         });
@@ -927,6 +992,11 @@ public final class PromisesBoundariesTest {
             S.due("one more", x.metres(0, -half + 1), Long.MIN_VALUE + 2);
             S.due("the greatest", x.metres(0, Long.MAX_VALUE), Long.MIN_VALUE);
             S.due("the least", x.metres(0, Long.MIN_VALUE), Long.MIN_VALUE);
+            RangeCodes seven = told(THREE + "limit 30;out delay 7;");
+            S.due("least by 7", seven.metres(0, Long.MIN_VALUE / 7), Long.MIN_VALUE / 7 * 7);
+            S.due("one less by 7", seven.metres(0, Long.MIN_VALUE / 7 - 1), Long.MIN_VALUE);
+            S.due("most by 7", seven.metres(0, Long.MAX_VALUE / 7), Long.MAX_VALUE / 7 * 7);
+            S.due("one more by 7", seven.metres(0, Long.MAX_VALUE / 7 + 1), Long.MIN_VALUE);
             S.due("round to a small one", x.metres(0, Long.MAX_VALUE / 2 + 10), Long.MIN_VALUE);
         });
         S.test("34: Long.MIN_VALUE: there is none, no such LEG", () -> {
@@ -995,6 +1065,7 @@ public final class PromisesBoundariesTest {
         S.test("36: NONE: none, no such LEG, another number", () -> {
             RangeCodes x = told("part xxo 1;limit 9999;");
             dueAll("number", beside(0, 9999), -1, number -> x.needs(0, number));
+            S.due("-1, where they are not joined", told("part xo 1;part xxoo 9;out delay 1;").needs(0, -1), -1);
             S.due("9999 is never below LIMIT", x.needs(0, 9999), -1);
             S.due("2 never comes", x.needs(0, 2), -1);
             dueAll("leg", Sentences.NO_LEGS, -1, leg -> x.needs(leg, 0));
@@ -1060,6 +1131,7 @@ public final class PromisesBoundariesTest {
                 S.due("image", x.image(k), true);
                 x.tune();
                 x.clean(0);
+                Sentences.write(x, "limit 5;limit 6;limit 7;");
                 S.due("again", x.again(k), true);
                 S.due("all", Sentences.seen(x), ahead);
                 S.due("its text is read", x.tune(), 1);
@@ -1187,6 +1259,18 @@ public final class PromisesBoundariesTest {
             String ahead = Sentences.seen(x);
             S.due("an 11th", x.mark(0, 1, 3), -1);
             S.due("all", Sentences.seen(x), ahead);
+        });
+        S.test("at most 5 PARTS, of 13 CHIPS: each question has its answer", () -> {
+            RangeCodes x = told("part xoooooooooooo 9;".repeat(5) + "out delay 12;out many 200;back many 200;");
+            int[] got = {x.code(1), x.full(4, 12), x.match(0, 4, 12), x.best(1, 4, 0), x.right(0), x.joined(0, 31),
+                x.found(1, 0), x.guess(0, 1), x.likely(0, 0, true), x.rank(0, 12), x.rank(0, 0), x.needs(0, 12),
+                x.needs(1, 12), x.track(0, 200, 20), x.silent(0, 4), x.enough(0), x.better(4, true), x.longer(0, 13, 2)};
+            // ahead of 0 are 76 numbers that leave 12 and 77 each that leave 5 to 11: their x is heard as o
+            // 15 times of 200, that of 0 to 4 is 16 times; 12 chips of o leave place 12 alone
+            int[] due = {13, 13 - 4, 200, 12, 31, 12, 12, 25, 9000, 0, 76 + 7 * 77, 12, 12, 12, 200, -1, 13, 13};
+            for (int k = 0; k < due.length; k++) {
+                S.due("answer " + k, got[k], due[k]);
+            }
         });
         S.test("An object is used for at most 512 calls after it has been made", () -> {
             RangeCodes x = new RangeCodes();

@@ -1,6 +1,8 @@
+import java.math.BigInteger;
+
 /**
  * The document's "Terms": for each sentence (or part of one) that names a boundary case a test of
- * its own. Answers were worked out by hand from the words; each test's name is these words.
+ * its own, named by its words (here and there shortened). Answers were worked out by hand from them.
  */
 public final class TermsBoundariesTest {
     private static final Sentences S = new Sentences();
@@ -10,6 +12,10 @@ public final class TermsBoundariesTest {
     private static final int[] MOST = {9999, 64, 9999, 200, 100, 9999};
     private static final int[] FIRST = {0, 0, 0, 40, 0, 0};
     private static final String[] MARKS = {"flip 1;", "lose 1 2;", "slip 1;", "skip 1;"};
+
+    private static final String[] ALL_FORMS = {"part xo 1 ;", "limit 5 ;", "out delay 1 ;", "out drift 1 ;",
+        "back shrink 1 ;", "out from 1 ;", "back many 1 ;", "out flip 1 ;", "back lose 1 2 ;", "out slip 1 ;",
+        "back skip 1 ;", "out noise 1 ;", "back seed 1 ;"};
 
     /** 3, 5 and 2 chips: 30 together; with 60 heard all parts find their places. */
     private static final String THREE = "part xxo 1;part xxoxo 1;part xo 1;out many 60;back many 60;";
@@ -333,6 +339,19 @@ public final class TermsBoundariesTest {
             S.fault("limit \n ", 1, 8);
             S.fault("limit 7", 1, 7);
             S.fault("limit 7;".repeat(61) + "part xo    1", 1, 500);
+            S.fault("limit 7;".repeat(61) + "part    xoxo", 1, 500);
+            S.fault("limit 7;".repeat(61) + "part xo 1   ", 1, 500);
+            for (String old : new String[] {"x", "5", " ", ";"}) {
+                for (String text : new String[] {"part xo", "part xo 1", "limit ", "limit"}) {
+                    RangeCodes x = new RangeCodes();
+                    Sentences.write(x, old.repeat(40));
+                    x.tune();
+                    Sentences.write(x, text);
+                    x.tune();
+                    S.due("fault of <" + text + "> behind <" + old + ">", x.fault(false), 1);
+                    S.due("not an older text's bytes: <" + text + "> behind <" + old + ">", x.fault(true), text.length());
+                }
+            }
         });
         S.test("1 the first token that can not stand there", () -> {
             S.faultAt("", "1 2 3", 1);
@@ -354,6 +373,17 @@ public final class TermsBoundariesTest {
                 S.faultAt("", word + " 1;", 1);
             }
         });
+        S.test("1 the first token that can not stand there: wherever it is, whatever comes behind it", () -> {
+            for (String text : ALL_FORMS) {
+                for (int at = 0; at >= 0; at = text.indexOf(' ', at + 1)) {
+                    String ahead = text.substring(0, at) + " ";
+                    S.faultAt(ahead, "? ?", 1);
+                    S.faultAt(ahead, "Z ; ; limit 0; 7", 1);
+                    S.faultAt(ahead, "leg ; limit 0; 7 ?", 1);
+                    S.faultAt(ahead, "12345 ; ?", 1);
+                }
+            }
+        });
         S.test("or a byte that begins none", () -> {
             S.faultAt("part xo 1;", "#part xo 1;", 1);
             S.faultAt("part xo ", "-1;", 1);
@@ -362,10 +392,7 @@ public final class TermsBoundariesTest {
             S.faultAt("part xo", "\r1;", 1);
         });
         S.test("or the end, if more must come", () -> {
-            String[] texts = {"part xo 1 ;", "limit 5 ;", "out delay 1 ;", "out drift 1 ;", "back shrink 1 ;",
-                "out from 1 ;", "back many 1 ;", "out flip 1 ;", "back lose 1 2 ;", "out slip 1 ;", "back skip 1 ;",
-                "out noise 1 ;", "back seed 1 ;"};
-            for (String text : texts) {
+            for (String text : ALL_FORMS) {
                 S.fine(text);
                 for (int at = text.lastIndexOf(' '); at > 0; at = text.lastIndexOf(' ', at - 1)) {
                     S.fault(text.substring(0, at), 1, at);
@@ -552,6 +579,21 @@ public final class TermsBoundariesTest {
             S.due("0 is not below 0", x.heard(0, 0), 1);
             RangeCodes all = told("part xx 1;out noise 100;out many 200;out seed 9999;");
             S.due("all are below 100", all.leg(0, 10), 0);
+        });
+        S.test("the remainder of x times 1103515245 and 12345 by 2147483648; of x / 65536 (rounded down) by 100", () -> {
+            for (int seed = 0; seed <= 9999; seed += 101) {
+                RangeCodes x = told("part xx 1;out many 12;out seed " + seed + ";");
+                BigInteger draws = BigInteger.valueOf(seed);
+                for (int i = 0; i < 12; i++) {
+                    draws = draws.multiply(BigInteger.valueOf(1103515245))
+                        .add(BigInteger.valueOf(12345)).mod(BigInteger.ONE.shiftLeft(31));
+                    int draw = draws.shiftRight(16).intValue() % 100;
+                    x.set(0, 4, draw);
+                    S.due("seed " + seed + ", i " + i + ": NOISE is the DRAW", x.heard(0, i), 1);
+                    x.set(0, 4, draw + 1);
+                    S.due("seed " + seed + ", i " + i + ": NOISE is one more", x.heard(0, i), 0);
+                }
+            }
         });
         S.test("turned over by a FLIP and by NOISE", () -> {
             RangeCodes x = told("part xx 1;out noise 100;out many 3;out flip 1;");
